@@ -442,7 +442,9 @@ public final class LayeredPage {
 
         void keep(int n) {
             if (n >= 0 && n <= count) {
-                Arrays.fill(row, n, count, 0);
+                for (int k = n; k < count; k++) {
+                    row[k] = 0;
+                }
                 count = n;
             }
         }
@@ -505,6 +507,7 @@ public final class LayeredPage {
             int chosen = choose(split, bit);
             width = chosen == 0 ? split : width - split;
             tally(context, chosen);
+            // No width is below 1, so sixteen doublings are always enough.
             for (int i = 0; i < DIGITS && width <= HALF_WIDTH; i++) {
                 width *= 2;
                 shift();

@@ -176,14 +176,16 @@ final class DecodeTest {
     /** Behind a code's end there are zeros, and not what stands there in the document. */
     private static void codesThatEnd() {
         LayeredPage page = new LayeredPage();
-        Documents.load(page, Documents.join(START, Documents.bytes(1, 0, 3, 0, 0x77, 255), Documents.repeated(14, NO_PLACINGS)));
+        Documents.load(page, Documents.join(START,
+                Documents.bytes(1, 0, 3, 0, 0x77, 255), Documents.repeated(14, NO_PLACINGS)));
         Reference reference = new Reference();
         for (int k = 0; k < page.length(); k++) {
             reference.alter(k, page.octet(k));
         }
         CHECK.due("decode() of a short code", page.decode(), reference.decode());
         CHECK.due("glyph(0) of a short code", page.glyph(0), reference.glyph(0));
-        Documents.load(page, Documents.join(START, Documents.bytes(1, 0, 2, 0, 0x70), Documents.bytes(1, 0, 3, 0, 0, 255)));
+        Documents.load(page, Documents.join(START,
+                Documents.bytes(1, 0, 2, 0, 0x70), Documents.bytes(1, 0, 3, 0, 0, 255)));
         CHECK.due("decode() of an empty code", page.decode(), 0);
         CHECK.due("glyph(0) of an empty code", page.glyph(0), 0);
         CHECK.due("glyph(1) behind it", page.glyph(1), 1);

@@ -176,7 +176,8 @@ final class DraftTest {
             page.paint(0, y, 0x3F1507060504033FL + 0x0101010101010000L * y);
         }
         for (int y = 0; y < 8; y++) {
-            CHECK.due("paint again " + y, page.paint(0, y, 0x3806050403020100L + 0x0101010101010101L * (y * y % 8)), true);
+            long cells = 0x3806050403020100L + 0x0101010101010101L * (y * y % 8);
+            CHECK.due("paint again " + y, page.paint(0, y, cells), true);
         }
         for (int y = 0; y < 4; y++) {
             CHECK.due("paint ink " + y, page.paint(1, y, 0x3C1E0A00L + 0x01010101L * (3 - y)), true);

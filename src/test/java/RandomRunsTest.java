@@ -91,8 +91,10 @@ final class RandomRunsTest {
     private void shape() {
         int w = side();
         int h = side();
-        int base = dice.once(3) ? LayeredPage.NONE : dice.between(dice.once(8) ? -2 : -1, drafted - (dice.once(8) ? 0 : 1));
-        long bits = style == 0 ? dice.bits() : style == 1 ? dice.bits() & dice.bits() : style == 2 ? -1L : 0x55AA55AA55AA55AAL;
+        int base = dice.once(3) ? LayeredPage.NONE
+                : dice.between(dice.once(8) ? -2 : -1, drafted - (dice.once(8) ? 0 : 1));
+        long bits = style == 0 ? dice.bits() : style == 1 ? dice.bits() & dice.bits()
+                : style == 2 ? -1L : 0x55AA55AA55AA55AAL;
         if (w >= 1 && w <= 8 && h >= 1 && h <= 8 && !dice.once(12)) {
             bits &= mask(w, h);
         }
@@ -113,7 +115,8 @@ final class RandomRunsTest {
         int layer = dice.once(20) ? dice.between(-1, 2) : dice.below(2);
         int row = dice.once(20) ? dice.between(-1, 8) : dice.below(layer == 1 ? 4 : 8);
         long cells = style == 0 ? dice.bits() : style == 1 ? dice.bits() & 0x0303030303030303L
-                : style == 2 ? (dice.once(2) ? 0x3F003F003F003F00L : 0x003F003F003F003FL) : 0x0807060504030201L * dice.below(8);
+                : style == 2 ? (dice.once(2) ? 0x3F003F003F003F00L : 0x003F003F003F003FL)
+                : 0x0807060504030201L * dice.below(8);
         if (!dice.once(20)) {
             cells &= layer == 1 ? 0x3F3F3F3FL : 0x3F3F3F3F3F3F3F3FL;
         }
@@ -154,7 +157,8 @@ final class RandomRunsTest {
             rebuild();
         }
         for (int i = dice.below(5); i > 0; i--) {
-            int k = dice.once(3) ? dice.between(-1, reference.length() + 1) : Math.max(0, reference.length() - dice.below(20));
+            int k = dice.once(3) ? dice.between(-1, reference.length() + 1)
+                    : Math.max(0, reference.length() - dice.below(20));
             int v = dice.once(12) ? dice.between(-1, 256) : dice.once(2) ? dice.below(12) : dice.below(256);
             due("alter(" + k + ", " + v + ")", page.alter(k, v), reference.alter(k, v));
         }
@@ -203,7 +207,8 @@ final class RandomRunsTest {
         switch (dice.below(7)) {
             case 0 -> due("pixel(" + x + ", " + y + ")", page.pixel(x, y), reference.pixel(x, y));
             case 1 -> due("inked(" + x + ", " + y + ")", page.inked(x, y), reference.inked(x, y));
-            case 2 -> due("cell(" + layer + ", " + u + ", " + v + ")", page.cell(layer, u, v), reference.cell(layer, u, v));
+            case 2 -> due("cell(" + layer + ", " + u + ", " + v + ")",
+                    page.cell(layer, u, v), reference.cell(layer, u, v));
             case 3 -> due("coefficient(" + layer + ", " + u + ", " + v + ")",
                     page.coefficient(layer, u, v), reference.coefficient(layer, u, v));
             case 4 -> due("shapes()", page.shapes(), reference.shapes());
