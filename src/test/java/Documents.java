@@ -38,6 +38,12 @@ final class Documents {
         return bytes;
     }
 
+    /** A chunk: its kind, its LENGTH and its bytes, which may be told in parts. */
+    static int[] chunk(int kind, int[]... parts) {
+        int[] inside = join(parts);
+        return join(bytes(kind, inside.length / 256, inside.length % 256), inside);
+    }
+
     static int[] repeated(int times, int... bytes) {
         int[] all = new int[0];
         for (int i = 0; i < times; i++) {

@@ -81,6 +81,24 @@ final class Reference {
         return bytes;
     }
 
+    /** The bytes of a code whose bits are given with their contexts: context, bit, context, bit, and so on. */
+    static int[] code(int... contextsAndBits) {
+        List<CodedBit> bits = new ArrayList<>();
+        for (int i = 0; i < contextsAndBits.length; i += 2) {
+            bits.add(new CodedBit(contextsAndBits[i], contextsAndBits[i + 1]));
+        }
+        return plain(bytesOf(bits));
+    }
+
+    /** The code of a layer with any coefficients, also such as no cells have. */
+    static int[] layerCode(int[][] coefficients, int slices) {
+        return plain(bytesOf(layerBits(coefficients, slices)));
+    }
+
+    private static int[] plain(List<Integer> bytes) {
+        return bytes.stream().mapToInt(Integer::intValue).toArray();
+    }
+
     private static final class Source {
         private final State state = new State();
         private BigInteger value = BigInteger.ZERO;
@@ -172,7 +190,7 @@ final class Reference {
         return a;
     }
 
-    private static int[][] cellsOf(int[][] coefficients) {
+    static int[][] cellsOf(int[][] coefficients) {
         int[][] a = copy(coefficients);
         for (int m = 2; m <= a.length; m *= 2) {
             for (int x = 0; x < m; x++) {
