@@ -3,130 +3,37 @@ final class DecodeTest {
     private static final int NONE = LayeredPage.NONE;
     private static final int[] START = {80, 71};
     private static final int[] SHAPE = {1, 0, 5, 0, 0, 128, 0, 0};
-    private static final int[] BARE_SHAPE = {1, 0, 2, 0, 0};
     private static final int[] NO_PLACINGS = {2, 0, 0};
     private static final int[] PLACING = {2, 0, 2, 0, 0};
-    private static final int[] GROUND = {3, 0, 1, 0};
-    private static final int[] INK = {4, 0, 1, 0};
     private static final Check CHECK = new Check();
 
     public static void main(String[] args) {
-        starts();
-        sizes();
-        kinds();
-        shapes();
-        shapeSizes();
-        placings();
-        layers();
-        firstFaultIsTold();
+        documentByHand();
         faultLeavesThePicture();
-        pictureStaysWhenTheDocumentChanges();
         codesThatEnd();
         everyCutOfADocument();
         CHECK.end();
     }
 
-    /** What decode answers to the bytes behind 80, 71. */
-    private static void due(String name, int fault, int[]... chunks) {
+    private static void documentByHand() {
         LayeredPage page = new LayeredPage();
-        Documents.load(page, Documents.join(START, Documents.join(chunks)));
-        CHECK.due(name + ": decode()", page.decode(), fault);
-        CHECK.due(name + ": is there a picture", page.shapes() != NONE, fault == 0);
-    }
-
-    private static void starts() {
-        int[][] wrong = {{}, {80}, {71}, {71, 80}, {80, 70}, {81, 71}, {0, 80, 71}, {80, 72, 9, 9}, {79, 71, 2, 0, 0}};
-        for (int[] bytes : wrong) {
-            LayeredPage page = new LayeredPage();
-            Documents.load(page, bytes);
-            CHECK.due("start of " + bytes.length + " bytes", page.decode(), 1);
-            CHECK.due("shapes() after it", page.shapes(), NONE);
+        Documents.load(page, Documents.join(START,
+                // INK first: one slice, whose first coefficient is 512
+                Documents.bytes(4, 0, 2, 1, 128),
+                SHAPE, PLACING,
+                // two bits 1 beside one another, with the base 0
+                Documents.bytes(1, 0, 3, 1, 0x10, 192),
+                Documents.bytes(2, 0, 4, 1, 0x53, 0, 0xFF)));
+        CHECK.due("by hand: decode()", page.decode(), 0);
+        CHECK.due("by hand: shapes()", page.shapes(), 2);
+        CHECK.due("by hand: placings()", page.placings(), 3);
+        CHECK.due("by hand: glyph(0)", page.glyph(0), 1);
+        CHECK.due("by hand: glyph(1)", page.glyph(1), 3);
+        CHECK.due("by hand: coefficient(1, 0, 0)", page.coefficient(1, 0, 0), 512);
+        for (int i = 0; i < 256; i++) {
+            boolean inked = i == 0 || i == 0xFF || i == 0x35 || i == 0x36;
+            CHECK.due("by hand: pixel " + i, page.pixel(i % 16, i / 16), inked ? 63 : 0);
         }
-        due("the start alone", 0);
-    }
-
-    private static void sizes() {
-        due("a kind alone", 2, Documents.bytes(2));
-        due("half a length", 2, Documents.bytes(2, 0));
-        due("a length of 0", 0, NO_PLACINGS);
-        due("a byte too few", 2, Documents.bytes(3, 0, 2, 0));
-        due("just enough", 0, Documents.bytes(3, 0, 2, 0, 0));
-        due("a byte too many", 2, Documents.bytes(3, 0, 1, 0, 0));
-        due("the high byte counts", 2, Documents.bytes(3, 1, 1, 0));
-        due("a high byte of a long chunk", 0, Documents.bytes(3, 1, 1), new int[257]);
-        due("one less than it", 2, Documents.bytes(3, 1, 1), new int[256]);
-        due("the highest length", 2, Documents.bytes(3, 255, 255, 0));
-    }
-
-    private static void kinds() {
-        due("kind 0", 3, Documents.bytes(0, 0, 0));
-        due("kind 5", 3, Documents.bytes(5, 0, 0));
-        due("kind 255", 3, Documents.bytes(255, 0, 0));
-        due("sixteen chunks", 0, Documents.repeated(16, NO_PLACINGS));
-        due("seventeen chunks", 3, Documents.repeated(17, NO_PLACINGS));
-        due("the seventeenth has a wrong size", 2, Documents.repeated(16, NO_PLACINGS), Documents.bytes(2, 0));
-        due("the seventeenth is too long", 2, Documents.repeated(16, NO_PLACINGS), Documents.bytes(2, 0, 1));
-        due("the seventeenth has other faults", 3, Documents.repeated(16, NO_PLACINGS), Documents.bytes(3, 0, 0));
-        due("a wrong kind of a wrong size", 2, Documents.bytes(9, 0, 1));
-    }
-
-    private static void shapes() {
-        due("eight shapes", 0, Documents.repeated(8, SHAPE));
-        due("nine shapes", 4, Documents.repeated(9, SHAPE));
-        due("eight shapes and placings", 0, Documents.repeated(8, SHAPE), Documents.bytes(2, 0, 2, 7, 255));
-        due("a shape of no bytes", 4, Documents.bytes(1, 0, 0));
-        due("a shape of one byte", 4, Documents.bytes(1, 0, 1, 0));
-        due("a shape without a code", 0, BARE_SHAPE);
-        due("base of the first", 4, Documents.bytes(1, 0, 2, 1, 0));
-        due("base of the second", 0, BARE_SHAPE, Documents.bytes(1, 0, 2, 1, 0));
-        due("base is itself", 4, BARE_SHAPE, Documents.bytes(1, 0, 2, 2, 0));
-        due("base is far off", 4, BARE_SHAPE, Documents.bytes(1, 0, 2, 255, 0));
-    }
-
-    private static void shapeSizes() {
-        for (int octet = 0; octet < 256; octet++) {
-            boolean right = octet / 16 <= 7 && octet % 16 <= 7;
-            due("second byte " + octet, right ? 0 : 4, Documents.bytes(1, 0, 2, 0, octet));
-        }
-    }
-
-    private static void placings() {
-        due("placing of no shape", 5, PLACING);
-        due("placing of a shape", 0, SHAPE, PLACING);
-        due("placing before its shape", 5, PLACING, SHAPE);
-        due("placing of a later shape", 5, SHAPE, Documents.bytes(2, 0, 2, 1, 0), SHAPE);
-        due("the last placing is wrong", 5, SHAPE, Documents.bytes(2, 0, 4, 0, 0, 1, 0));
-        due("a shape's number far off", 5, SHAPE, Documents.bytes(2, 0, 2, 255, 0));
-        due("odd length", 5, SHAPE, Documents.bytes(2, 0, 1, 0));
-        due("odd length of three", 5, SHAPE, Documents.bytes(2, 0, 3, 0, 0, 0));
-        due("twenty placings", 0, SHAPE, Documents.bytes(2, 0, 40), new int[40]);
-        due("twenty-one placings", 5, SHAPE, Documents.bytes(2, 0, 42), new int[42]);
-        due("twenty in two chunks", 0, SHAPE, Documents.bytes(2, 0, 38), new int[38], PLACING);
-        due("twenty-one in two chunks", 5, SHAPE, Documents.bytes(2, 0, 40), new int[40], PLACING);
-        due("none behind twenty", 0, SHAPE, Documents.bytes(2, 0, 40), new int[40], NO_PLACINGS);
-        due("two chunks with a shape between", 0, SHAPE, PLACING, SHAPE, Documents.bytes(2, 0, 2, 1, 255));
-    }
-
-    private static void layers() {
-        due("both layers", 0, GROUND, INK);
-        due("the other way round", 0, INK, GROUND);
-        due("ground twice", 6, GROUND, GROUND);
-        due("ink twice", 6, INK, INK);
-        due("ground twice with ink between", 6, GROUND, INK, GROUND);
-        due("ground of no bytes", 6, Documents.bytes(3, 0, 0));
-        due("ink of no bytes", 6, Documents.bytes(4, 0, 0));
-        due("ten slices", 0, Documents.bytes(3, 0, 1, 10), Documents.bytes(4, 0, 1, 10));
-        due("eleven slices", 6, Documents.bytes(3, 0, 1, 11));
-        due("eleven slices of ink", 6, Documents.bytes(4, 0, 1, 11));
-        due("255 slices", 6, Documents.bytes(3, 0, 1, 255));
-    }
-
-    private static void firstFaultIsTold() {
-        due("a layer, then a size", 6, GROUND, GROUND, Documents.bytes(1));
-        due("a kind, then a placing", 3, Documents.bytes(7, 0, 0), PLACING);
-        due("a placing, then a kind", 5, PLACING, Documents.bytes(7, 0, 0));
-        due("a shape, then a size", 4, Documents.bytes(1, 0, 0), Documents.bytes(1, 9));
-        due("a size, whatever is behind", 2, Documents.bytes(1, 0, 9), SHAPE);
     }
 
     private static void faultLeavesThePicture() {
@@ -155,22 +62,6 @@ final class DecodeTest {
         page.encode(10);
         CHECK.due("length() again", page.length(), length);
         CHECK.due("decode() again", page.decode(), 0);
-    }
-
-    private static void pictureStaysWhenTheDocumentChanges() {
-        LayeredPage page = new LayeredPage();
-        Documents.load(page, Documents.join(START, SHAPE, PLACING));
-        page.decode();
-        page.alter(7, 0);
-        page.cut(5);
-        CHECK.due("glyph(0) of an altered document", page.glyph(0), 1);
-        CHECK.due("inked(0, 0) of an altered document", page.inked(0, 0), true);
-        Documents.load(page, START);
-        CHECK.due("decode() of the start alone", page.decode(), 0);
-        CHECK.due("shapes() of the start alone", page.shapes(), 0);
-        CHECK.due("placings() of the start alone", page.placings(), 0);
-        CHECK.due("inked(0, 0) of the start alone", page.inked(0, 0), false);
-        CHECK.due("glyph(0) of the start alone", page.glyph(0), 0);
     }
 
     /** Behind a code's end there are zeros, and not what stands there in the document. */

@@ -10,7 +10,6 @@ final class DocumentTest {
         alterWithin();
         alterAtTheEnd();
         alterRefused();
-        alterUpToTheLimit();
         cutKeepsTheFirst();
         cutRefused();
         encodeAfterCut();
@@ -74,19 +73,6 @@ final class DocumentTest {
         CHECK.due("alter(1, 256)", page.alter(1, 256), false);
         CHECK.due("alter(2, 256)", page.alter(2, 256), false);
         Documents.due(CHECK, "refused", page, 5, 6);
-    }
-
-    /** More calls than an object is good for: there is no other way to so long a document. */
-    private static void alterUpToTheLimit() {
-        LayeredPage page = new LayeredPage();
-        for (int k = 0; k < 1200; k++) {
-            CHECK.due("alter(" + k + ", v)", page.alter(k, k % 256), true);
-        }
-        CHECK.due("alter(1200, 1)", page.alter(1200, 1), false);
-        CHECK.due("alter(1199, 1)", page.alter(1199, 1), true);
-        CHECK.due("length() at the limit", page.length(), 1200);
-        CHECK.due("octet(1199)", page.octet(1199), 1);
-        CHECK.due("octet(1200)", page.octet(1200), NONE);
     }
 
     private static void cutKeepsTheFirst() {
