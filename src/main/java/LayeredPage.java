@@ -14,6 +14,9 @@ public final class LayeredPage {
     private static final int PLACING_LIMIT = 20;
     private static final int GROUND_SIZE = 8;
     private static final int INK_SIZE = 4;
+    /** How many pixels a cell is wide and high. */
+    private static final int GROUND_PIXELS = PAGE_SIZE / GROUND_SIZE;
+    private static final int INK_PIXELS = PAGE_SIZE / INK_SIZE;
     private static final int CELL_LIMIT = 63;
     private static final int SLICE_LIMIT = 10;
     private static final int OCTET_LIMIT = 1200;
@@ -121,9 +124,10 @@ public final class LayeredPage {
         if (!hasPicture || !isOnPage(x, y)) {
             return NONE;
         }
-        Layer seen = picture.isInked(x, y) ? picture.ink : picture.ground;
-        int pixels = PAGE_SIZE / seen.size;
-        return seen.cells[seen.indexOf(x / pixels, y / pixels)];
+        if (picture.isInked(x, y)) {
+            return picture.ink.cellAt(x / INK_PIXELS, y / INK_PIXELS);
+        }
+        return picture.ground.cellAt(x / GROUND_PIXELS, y / GROUND_PIXELS);
     }
 
     public boolean inked(int x, int y) {
@@ -132,12 +136,12 @@ public final class LayeredPage {
 
     public int cell(int layer, int x, int y) {
         Layer found = pictureLayer(layer);
-        return found == null || !found.hasCell(x, y) ? NONE : found.cells[found.indexOf(x, y)];
+        return found == null ? NONE : found.cellAt(x, y);
     }
 
     public int coefficient(int layer, int x, int y) {
         Layer found = pictureLayer(layer);
-        return found == null || !found.hasCell(x, y) ? 0 : found.coefficients[found.indexOf(x, y)];
+        return found == null ? 0 : found.coefficientAt(x, y);
     }
 
     public int shapes() {
@@ -289,8 +293,8 @@ public final class LayeredPage {
         private static final int CONTEXT_BEGUN = 4;
 
         final int size;
-        final int[] cells;
-        final int[] coefficients;
+        private final int[] cells;
+        private final int[] coefficients;
         /** The coefficients as far as the planes that went through a coder tell them. */
         private final int[] coded;
         private final int[] line;
@@ -315,8 +319,16 @@ public final class LayeredPage {
             return x >= 0 && x < size && y >= 0 && y < size;
         }
 
-        int indexOf(int x, int y) {
+        private int indexOf(int x, int y) {
             return size * y + x;
+        }
+
+        int cellAt(int x, int y) {
+            return hasCell(x, y) ? cells[indexOf(x, y)] : NONE;
+        }
+
+        int coefficientAt(int x, int y) {
+            return hasCell(x, y) ? coefficients[indexOf(x, y)] : 0;
         }
 
         void setRow(int row, long octets) {
@@ -489,6 +501,11 @@ public final class LayeredPage {
         private final int[] zeros = new int[CONTEXTS];
         private final int[] ones = new int[CONTEXTS];
         private int width = FULL_WIDTH;
+
+        // No count is ever 0, as their sum divides.
+        Coder() {
+            restart();
+        }
 
         /** Writes the bit, or reads one and pays no heed to the bit; answers what was written or read. */
         abstract int choose(int split, int bit);
